@@ -381,8 +381,8 @@ public final class Voucherworks {
         }
     }
 
-    private static void refuseIf(boolean isBarred) {
-        if (isBarred) {
+    private static void refuseIf(boolean holds) {
+        if (holds) {
             throw new IllegalStateException("not as things stand");
         }
     }

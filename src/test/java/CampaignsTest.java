@@ -11,16 +11,21 @@ final class CampaignsTest {
         single();
         ordersAndLeast();
         aHigherPriceOnTheWay();
+        theHigherOfTwoPricesOfASet();
         bars();
         six();
         pricesRefused();
         Check.end();
     }
 
-    /** All three questions of a price at once. */
+    /** All three questions of a price, each behind one of another price, which must leave no trace. */
     private static void prices(Voucherworks x, int price, int best, int fewest) {
+        int another = price == 1000 ? 2 : price + 1;
+        x.fewest(another);
         Check.due("best(" + price + ")", x.best(price), best);
+        x.best(another);
         Check.due("bestAnew(" + price + ")", x.bestAnew(price), best);
+        x.bestAnew(another);
         Check.due("fewest(" + price + ")", x.fewest(price), fewest);
     }
 
@@ -137,6 +142,16 @@ final class CampaignsTest {
         prices(y, 7, 6, 1);
         // 20: 20 - 2 = 18, 18 - 2 = 16; 20 - 3 = 17, 17 - 1 = 16.
         prices(y, 20, 16, 2);
+    }
+
+    /** 101 to 91 to 86 ends there; 101 to 96 to 87 can go on to 37. */
+    private static void theHigherOfTwoPricesOfASet() {
+        Voucherworks x = new Voucherworks();
+        x.campaign(true, 10, 95);
+        x.campaign(false, 5, 90);
+        prices(x, 101, 86, 2);
+        x.campaign(false, 50, 87);
+        prices(x, 101, 37, 3);
     }
 
     private static void bars() {

@@ -6,6 +6,7 @@ final class CardsTest {
     public static void main(String[] args) {
         newObject();
         law();
+        lawAtFirst();
         lawIsKept();
         lawRefuses();
         rate();
@@ -47,6 +48,24 @@ final class CardsTest {
         x.law(1, 7, 3, 20);
         Check.due("the law of another land stays", x.law(2, 8, 0, 0), 24);
         Check.due("the law of this land", x.law(1, 8, 0, 0), 7);
+    }
+
+    private static void lawAtFirst() {
+        Voucherworks x = new Voucherworks();
+        for (int land = 0; land < 3; land++) {
+            x.sell(land, land, 500);
+        }
+        Steps.pass(x, 23);
+        for (int land = 0; land < 3; land++) {
+            Check.due("LIFE at first", x.ofCard(land, 7), 24);
+            Check.due("12 FEES of 2", x.ofChain(land, 4), 24);
+            x.load(land, 1, true);
+        }
+        x.pass();
+        for (int land = 0; land < 3; land++) {
+            Check.due("SHARE of 50 hundredths", x.owed(land, land), 238);
+            Check.due("the other half", x.ofChain(land, 4), 24 + 238);
+        }
     }
 
     /** LIFE, FEE and SHARE are the card's for good as it is sold. */

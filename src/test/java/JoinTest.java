@@ -11,6 +11,7 @@ final class JoinTest {
         attempt();
         attemptRefuses();
         codes();
+        allCodes();
         free();
         Check.end();
     }
@@ -176,6 +177,21 @@ final class JoinTest {
         // 11 * 3571 + 3 * 977 + 2 * 131 + 2718 = 45192: NUMBER 5192: 5 + 3 + 63 + 18 = 89.
         Check.due("NUMBER 5192", x.ofCard(11, 4), 51929);
         Check.due("it is right", x.attempt(11, 51929), true);
+    }
+
+    /** Each of the 12 cards in each of the 12 pairs of a chain and a land, by the digits of the NUMBER. */
+    private static void allCodes() {
+        for (int shift = 0; shift < 12; shift++) {
+            Voucherworks x = new Voucherworks();
+            for (int card = 0; card < 12; card++) {
+                int chain = (card + shift) % 4;
+                int land = (card + shift) % 12 / 4;
+                x.sell(chain, land, 1);
+                String digits = String.format("%04d", (3571 * card + 977 * chain + 131 * land + 2718) % 10000);
+                int sum = digits.charAt(0) + 3 * digits.charAt(1) + 7 * digits.charAt(2) + 9 * digits.charAt(3) - 20 * '0';
+                Check.due("CODE", x.ofCard(card, 4), Integer.parseInt(digits + sum % 10));
+            }
+        }
     }
 
     private static void free() {

@@ -20,6 +20,8 @@ final class ModelTest {
         weights[4] = below(3);
         weights[18] = below(3) == 0 ? 1 : 0;
         weights[10] += below(12);
+        // Some runs come to 60 LOTS while PAYMENTS with LOTS that have EXPIRED are open.
+        weights[3] += new int[] {0, 0, 10, 30}[below(4)];
         stray = new int[] {0, 3, 12}[below(3)];
     }
 

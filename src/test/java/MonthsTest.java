@@ -228,6 +228,10 @@ final class MonthsTest {
         x.load(0, 1, false);
         Check.due("2 for 3 lots of 1: nothing for each", x.die(0, 2), 2);
         Check.due("LOST", x.ofChain(0, 7), 3);
+        Voucherworks w = new Voucherworks();
+        w.sell(0, 0, 1);
+        w.die(0, 0);
+        Check.due("a single coin, and no ESTATE", w.ofChain(0, 7), 1);
         Voucherworks y = new Voucherworks();
         y.sell(0, 0, 10);
         y.load(0, 11, false);

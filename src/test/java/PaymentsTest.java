@@ -14,6 +14,7 @@ final class PaymentsTest {
         giveBackByOrderNotByNumber();
         giveBackToExpired();
         giveBackToALotThatAFeeEmptied();
+        giveBackSingleCoins();
         giveBackOfFrozen();
         giveBackAfterJoin();
         giveBackRefuses();
@@ -237,6 +238,22 @@ final class PaymentsTest {
         Check.noSuch("no new lot", x, () -> x.ofLot(1, 0));
         Check.due("giving back is no USE: the next fee comes", x.pass(), 13);
         Check.due("the fee", x.ofChain(0, 4), 10);
+    }
+
+    private static void giveBackSingleCoins() {
+        Voucherworks x = new Voucherworks();
+        x.law(0, 6, 0, 0);
+        x.sell(0, 0, 10);
+        x.pay(0, 3);
+        x.giveBack(0, 1);
+        Check.due("one to the lot", x.ofLot(0, 2), 8);
+        Steps.pass(x, 6);
+        x.giveBack(0, 1);
+        Check.due("one to a new lot", x.ofLot(1, 2), 1);
+        Check.due("the last one of the payment", x.giveBack(0, 1), 0);
+        Check.due("to another new lot", x.ofLot(2, 2), 1);
+        Check.due("nothing is taken any more", x.taken(0, 0), 0);
+        Check.due("accounts", x.leftAnew(0), 2);
     }
 
     private static void giveBackOfFrozen() {
