@@ -752,22 +752,22 @@ public final class Voucherworks {
         }
 
         int leastByOrders(int price) {
-            return leastFrom(price, 0, 0);
+            return leastFrom(this, price, 0, 0);
         }
 
         /** Closed are the campaigns that are applied already, and those that they bar. */
-        private int leastFrom(int price, int closed, int depth) {
+        private static int leastFrom(Campaigns all, int price, int closed, int depth) {
             int lowestYet = price;
             if (depth >= MOST_CAMPAIGNS) {
                 return lowestYet;
             }
-            for (int campaign = 0; campaign < count; campaign++) {
-                if ((closed >> campaign & 1) == 0 && price >= least[campaign]) {
-                    int next = reduced(campaign, price);
+            for (int campaign = 0; campaign < all.count; campaign++) {
+                if ((closed >> campaign & 1) == 0 && price >= all.least[campaign]) {
+                    int next = all.reduced(campaign, price);
                     // One that takes nothing off only closes others.
                     if (next < price) {
-                        int then = closed | 1 << campaign | barred[campaign];
-                        lowestYet = Math.min(lowestYet, leastFrom(next, then, depth + 1));
+                        int then = closed | 1 << campaign | all.barred[campaign];
+                        lowestYet = Math.min(lowestYet, leastFrom(all, next, then, depth + 1));
                     }
                 }
             }

@@ -19,7 +19,7 @@ final class CampaignsTest {
     }
 
     /** All three questions of a price, each behind one of another price, which must leave no trace. */
-    private static void prices(Voucherworks x, int price, int best, int fewest) {
+    private static void prices(Works x, int price, int best, int fewest) {
         int another = price == 1000 ? 2 : price + 1;
         x.fewest(another);
         Check.due("best(" + price + ")", x.best(price), best);
@@ -30,7 +30,7 @@ final class CampaignsTest {
     }
 
     private static void campaign() {
-        Voucherworks x = new Voucherworks();
+        Works x = new Works();
         Check.due("campaign of 1 hundredth", x.campaign(true, 1, 0), 0);
         Check.due("campaign of 90 hundredths", x.campaign(true, 90, 500), 1);
         Check.due("campaign of 1", x.campaign(false, 1, 500), 2);
@@ -42,7 +42,7 @@ final class CampaignsTest {
     }
 
     private static void campaignRefuses() {
-        Voucherworks x = new Voucherworks();
+        Works x = new Works();
         Check.outOfRange("0 hundredths", x, () -> x.campaign(true, 0, 0));
         Check.outOfRange("91 hundredths", x, () -> x.campaign(true, 91, 0));
         Check.outOfRange("VALUE 0", x, () -> x.campaign(false, 0, 0));
@@ -54,7 +54,7 @@ final class CampaignsTest {
     }
 
     private static void bar() {
-        Voucherworks x = new Voucherworks();
+        Works x = new Works();
         for (int i = 0; i < 6; i++) {
             x.campaign(false, 1 + i, 0);
         }
@@ -71,7 +71,7 @@ final class CampaignsTest {
     }
 
     private static void barRefuses() {
-        Voucherworks x = new Voucherworks();
+        Works x = new Works();
         Check.noSuch("bar without campaigns", x, () -> x.bar(0, 1, true));
         x.campaign(false, 10, 0);
         x.campaign(true, 10, 0);
@@ -86,19 +86,19 @@ final class CampaignsTest {
     }
 
     private static void single() {
-        Voucherworks none = new Voucherworks();
+        Works none = new Works();
         prices(none, 1, 1, 0);
         prices(none, 1000, 1000, 0);
-        Voucherworks x = new Voucherworks();
+        Works x = new Works();
         x.campaign(true, 33, 10);
         prices(x, 9, 9, 0);
         prices(x, 10, 7, 1);
         prices(x, 1000, 670, 1);
-        Voucherworks small = new Voucherworks();
+        Works small = new Works();
         small.campaign(true, 1, 0);
         prices(small, 99, 99, 0);
         prices(small, 100, 99, 1);
-        Voucherworks fixed = new Voucherworks();
+        Works fixed = new Works();
         fixed.campaign(false, 200, 100);
         prices(fixed, 99, 99, 0);
         prices(fixed, 100, 0, 1);
@@ -107,14 +107,14 @@ final class CampaignsTest {
     }
 
     private static void ordersAndLeast() {
-        Voucherworks x = new Voucherworks();
+        Works x = new Works();
         x.campaign(false, 50, 0);
         x.campaign(true, 50, 0);
         // The hundredths first: 100 to 50 to 0; the other way round it would be 25.
         prices(x, 100, 0, 2);
         prices(x, 50, 0, 1);
         prices(x, 120, 10, 2);
-        Voucherworks y = new Voucherworks();
+        Works y = new Works();
         y.campaign(false, 50, 100);
         y.campaign(true, 50, 100);
         // Either one brings 100 below the LEAST of the other.
@@ -126,14 +126,14 @@ final class CampaignsTest {
 
     /** The one that takes most off first is not always on the best way. */
     private static void aHigherPriceOnTheWay() {
-        Voucherworks x = new Voucherworks();
+        Works x = new Works();
         x.campaign(false, 60, 0);
         x.campaign(true, 30, 100);
         x.campaign(false, 1, 70);
         prices(x, 100, 9, 3);
         prices(x, 101, 10, 3);
         prices(x, 99, 38, 2);
-        Voucherworks y = new Voucherworks();
+        Works y = new Works();
         y.campaign(true, 10, 0);
         y.campaign(true, 15, 0);
         // 15: 15 - 1 = 14, 14 - 2 = 12; 15 - 2 = 13, 13 - 1 = 12.
@@ -146,7 +146,7 @@ final class CampaignsTest {
 
     /** 101 to 91 to 86 ends there; 101 to 96 to 87 can go on to 37. */
     private static void theHigherOfTwoPricesOfASet() {
-        Voucherworks x = new Voucherworks();
+        Works x = new Works();
         x.campaign(true, 10, 95);
         x.campaign(false, 5, 90);
         prices(x, 101, 86, 2);
@@ -155,7 +155,7 @@ final class CampaignsTest {
     }
 
     private static void bars() {
-        Voucherworks x = new Voucherworks();
+        Works x = new Works();
         x.campaign(false, 30, 0);
         x.campaign(false, 40, 0);
         x.campaign(false, 25, 0);
@@ -171,14 +171,14 @@ final class CampaignsTest {
     }
 
     private static void six() {
-        Voucherworks x = new Voucherworks();
+        Works x = new Works();
         for (int i = 0; i < 6; i++) {
             x.campaign(true, 90, i == 5 ? 500 : 0);
         }
         // 1000, 100, 10, 1, and there it stays; the one from 500 on only at first.
         prices(x, 1000, 1, 3);
         prices(x, 9, 1, 1);
-        Voucherworks y = new Voucherworks();
+        Works y = new Works();
         for (int i = 0; i < 6; i++) {
             y.campaign(false, 100 + i, 0);
         }
@@ -189,7 +189,7 @@ final class CampaignsTest {
     }
 
     private static void pricesRefused() {
-        Voucherworks x = new Voucherworks();
+        Works x = new Works();
         x.campaign(false, 5, 0);
         for (int price : new int[] {0, -1, 1001, Integer.MIN_VALUE, Integer.MAX_VALUE}) {
             Check.outOfRange("best(" + price + ")", x, () -> x.best(price));

@@ -20,7 +20,7 @@ final class CardsTest {
     }
 
     private static void newObject() {
-        Voucherworks x = new Voucherworks();
+        Works x = new Works();
         Check.due("month of a new object", x.month(), 0);
         Check.noSuch("ofCard(0, 0) of a new object", x, () -> x.ofCard(0, 0));
         Check.noSuch("ofLot(0, 0) of a new object", x, () -> x.ofLot(0, 0));
@@ -38,7 +38,7 @@ final class CardsTest {
     }
 
     private static void law() {
-        Voucherworks x = new Voucherworks();
+        Works x = new Works();
         for (int land = 0; land < 3; land++) {
             Check.due("law at first", x.law(land, 0, 0, 0), 24);
             Check.due("law then", x.law(land, 6, 9, 100), 0);
@@ -51,7 +51,7 @@ final class CardsTest {
     }
 
     private static void lawAtFirst() {
-        Voucherworks x = new Voucherworks();
+        Works x = new Works();
         for (int land = 0; land < 3; land++) {
             x.sell(land, land, 500);
         }
@@ -70,7 +70,7 @@ final class CardsTest {
 
     /** LIFE, FEE and SHARE are the card's for good as it is sold. */
     private static void lawIsKept() {
-        Voucherworks x = new Voucherworks();
+        Works x = new Works();
         x.law(0, 13, 4, 10);
         x.sell(0, 0, 100);
         x.law(0, 6, 9, 100);
@@ -87,7 +87,7 @@ final class CardsTest {
     }
 
     private static void lawRefuses() {
-        Voucherworks x = new Voucherworks();
+        Works x = new Works();
         Check.noSuch("law(-1)", x, () -> x.law(-1, 24, 2, 50));
         Check.noSuch("law(3)", x, () -> x.law(3, 24, 2, 50));
         Check.noSuch("law(3) with all wrong", x, () -> x.law(3, 1, 10, 101));
@@ -107,7 +107,7 @@ final class CardsTest {
     }
 
     private static void rate() {
-        Voucherworks x = new Voucherworks();
+        Works x = new Works();
         Check.due("rate at first", x.rate(3, 100), 0);
         Check.due("rate then", x.rate(3, 0), 100);
         Check.due("rate of another chain", x.rate(0, 7), 0);
@@ -116,7 +116,7 @@ final class CardsTest {
     }
 
     private static void rateRefuses() {
-        Voucherworks x = new Voucherworks();
+        Works x = new Works();
         x.rate(0, 5);
         Check.noSuch("rate(-1)", x, () -> x.rate(-1, 5));
         Check.noSuch("rate(4)", x, () -> x.rate(4, 5));
@@ -129,7 +129,7 @@ final class CardsTest {
     }
 
     private static void sell() {
-        Voucherworks x = new Voucherworks();
+        Works x = new Works();
         Check.due("sell", x.sell(3, 2, 500), 0);
         Steps.pass(x, 5);
         x.law(1, 0, 1, 1);
@@ -152,7 +152,7 @@ final class CardsTest {
     }
 
     private static void sellRefuses() {
-        Voucherworks x = new Voucherworks();
+        Works x = new Works();
         Check.noSuch("sell of chain -1", x, () -> x.sell(-1, 0, 1));
         Check.noSuch("sell of chain 4", x, () -> x.sell(4, 0, 0));
         Check.noSuch("sell in land -1", x, () -> x.sell(0, -1, 1));
@@ -167,13 +167,13 @@ final class CardsTest {
     }
 
     private static void sellRefusesWhenFull() {
-        Voucherworks x = new Voucherworks();
+        Works x = new Works();
         for (int card = 0; card < 12; card++) {
             Check.due("sell", x.sell(card % 4, card % 3, 1), card);
         }
         Check.notNow("sell of the 13th card", x, () -> x.sell(0, 0, 1));
         Check.outOfRange("sell of the 13th card, without coins", x, () -> x.sell(0, 0, 0));
-        Voucherworks y = new Voucherworks();
+        Works y = new Works();
         y.sell(0, 0, 1);
         for (int lot = 1; lot < 59; lot++) {
             y.load(0, 1, true);
@@ -183,7 +183,7 @@ final class CardsTest {
     }
 
     private static void load() {
-        Voucherworks x = new Voucherworks();
+        Works x = new Works();
         x.sell(1, 0, 10);
         Steps.pass(x, 2);
         Check.due("load BOUGHT", x.load(0, 500, false), 510);
@@ -204,7 +204,7 @@ final class CardsTest {
     }
 
     private static void loadRefuses() {
-        Voucherworks x = new Voucherworks();
+        Works x = new Works();
         Check.noSuch("load without cards", x, () -> x.load(0, 1, false));
         x.sell(0, 0, 1);
         x.sell(0, 0, 1);

@@ -117,6 +117,11 @@ final class FaceTest {
             Check.holds(nested + " is static", Modifier.isStatic(kind));
             Check.holds(nested + " is not public or protected", !Modifier.isPublic(kind) && !Modifier.isProtected(kind));
             Check.holds(nested + " has some twenty fields at most", nested.getDeclaredFields().length <= 20);
+            for (Method method : nested.getDeclaredMethods()) {
+                boolean isPrivate = Modifier.isPrivate(method.getModifiers());
+                Check.holds(method + " bears a public name",
+                    !isPrivate || due().stream().noneMatch(face -> face.contains(" " + method.getName() + "(")));
+            }
         }
     }
 }

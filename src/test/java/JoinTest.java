@@ -17,7 +17,7 @@ final class JoinTest {
     }
 
     private static void join() {
-        Voucherworks x = new Voucherworks();
+        Works x = new Works();
         x.sell(1, 0, 100);
         x.sell(1, 2, 30);
         x.load(1, 5, true);
@@ -49,7 +49,7 @@ final class JoinTest {
     }
 
     private static void joinMovesMarks() {
-        Voucherworks x = new Voucherworks();
+        Works x = new Works();
         x.sell(0, 0, 300);
         x.sell(0, 0, 300);
         x.pay(0, 100);
@@ -74,7 +74,7 @@ final class JoinTest {
     }
 
     private static void joinKeepsTheOnesLaw() {
-        Voucherworks x = new Voucherworks();
+        Works x = new Works();
         x.law(0, 20, 0, 0);
         x.law(1, 6, 9, 100);
         x.sell(0, 0, 10);
@@ -91,7 +91,7 @@ final class JoinTest {
     }
 
     private static void joinRefuses() {
-        Voucherworks x = new Voucherworks();
+        Works x = new Works();
         x.sell(0, 0, 10);
         x.sell(0, 0, 10);
         x.sell(1, 0, 10);
@@ -116,7 +116,7 @@ final class JoinTest {
     }
 
     private static void attempt() {
-        Voucherworks x = new Voucherworks();
+        Works x = new Works();
         x.sell(0, 0, 10);
         Check.due("a wrong one", x.attempt(0, 27181), false);
         Check.due("a MISS", x.ofCard(0, 3), 1);
@@ -144,7 +144,7 @@ final class JoinTest {
     }
 
     private static void attemptRefuses() {
-        Voucherworks x = new Voucherworks();
+        Works x = new Works();
         Check.noSuch("attempt without cards", x, () -> x.attempt(0, 27182));
         x.sell(0, 0, 10);
         x.sell(0, 0, 10);
@@ -162,7 +162,7 @@ final class JoinTest {
 
     /** Worked by hand: the digits of the NUMBER, times 1, 3, 7 and 9. */
     private static void codes() {
-        Voucherworks x = new Voucherworks();
+        Works x = new Works();
         x.sell(0, 0, 1);
         x.sell(3, 2, 1);
         x.sell(2, 1, 1);
@@ -182,7 +182,7 @@ final class JoinTest {
     /** Each of the 12 cards in each of the 12 pairs of a chain and a land, by the digits of the NUMBER. */
     private static void allCodes() {
         for (int shift = 0; shift < 12; shift++) {
-            Voucherworks x = new Voucherworks();
+            Works x = new Works();
             for (int card = 0; card < 12; card++) {
                 int chain = (card + shift) % 4;
                 int land = (card + shift) % 12 / 4;
@@ -195,7 +195,7 @@ final class JoinTest {
     }
 
     private static void free() {
-        Voucherworks x = new Voucherworks();
+        Works x = new Works();
         Check.noSuch("free without cards", x, () -> x.free(0));
         x.sell(0, 0, 10);
         Check.noSuch("free(-1)", x, () -> x.free(-1));

@@ -6,16 +6,19 @@ import java.util.TreeSet;
 import java.util.regex.Matcher;
 import java.util.regex.Pattern;
 
-/** Looks in the program's text for what the rules of the language rule out, as far as a text tells. */
+/** Looks in the program's text for what the rules of ../shared/LANGUAGE.md rule out, as far as a text tells. */
 final class LanguageTest {
     private static final Path PROGRAM = Path.of("src", "main", "java", "Voucherworks.java");
     private static final int MOST_LINES = 60;
 
-    /** All classes of others, and all their methods, that the program may name. */
-    private static final List<String> TYPES = List.of("Voucherworks", "Arrays", "Math", "Integer",
-        "IndexOutOfBoundsException", "IllegalArgumentException", "IllegalStateException",
-        "Lands", "Chains", "Cards", "Lots", "Campaigns", "Payments");
-    private static final List<String> CALLS = List.of("Arrays.fill", "Math.min", "Math.max", "Integer.bitCount");
+    /** All classes of others that rules 3, 4 and 6 leave. */
+    private static final List<String> TYPES = List.of("String", "StringBuilder", "Integer", "Long", "Math", "ArrayList",
+        "List", "Iterator", "Iterable", "Comparable", "System", "Arrays", "Override", "IllegalStateException",
+        "IllegalArgumentException", "IndexOutOfBoundsException", "ArithmeticException",
+        "UnsupportedOperationException", "NoSuchElementException", "RuntimeException");
+
+    private static final List<String> IMPORTS = List.of("ArrayList", "List", "Iterator", "Arrays",
+        "NoSuchElementException");
 
     private LanguageTest() {
     }
@@ -26,7 +29,8 @@ final class LanguageTest {
         String code = withoutComments(text);
         imports(code);
         wordsRuledOut(code);
-        typesAndCalls(code);
+        types(code);
+        staticCalls(code);
         methodsAreShort(code);
         Check.end();
     }
@@ -37,40 +41,56 @@ final class LanguageTest {
     }
 
     private static void imports(String code) {
-        Matcher found = Pattern.compile("(?m)^import[^;]*;").matcher(code);
+        Matcher found = Pattern.compile("(?m)^import ([^;]*);").matcher(code);
         while (found.find()) {
-            Check.due("an import", found.group(), "import java.util.Arrays;");
+            boolean isListed = found.group(1).startsWith("java.util.")
+                && IMPORTS.contains(found.group(1).substring("java.util.".length()));
+            Check.holds("the import " + found.group(1), isListed);
         }
         Check.holds("no package line", !Pattern.compile("(?m)^package ").matcher(code).find());
     }
 
     private static void wordsRuledOut(String code) {
-        for (String word : List.of("try", "catch", "finally", "synchronized", "assert", "instanceof", "float",
-            "double", "volatile", "transient", "native", "protected", "System", "Thread", "Random", "Object",
-            "equals", "hashCode", "toString", "null", "import static", "static \\{", "record", "var")) {
+        for (String word : List.of("finally", "synchronized", "assert", "volatile", "transient", "native", "protected",
+            "hashCode", "var", "static \\{", "try \\(", "getMessage", "static(?! final)[A-Za-z\\[\\] ]* [a-z][A-Za-z]* ?[=;]")) {
             Check.holds("'" + word + "' stands in the program",
                 !Pattern.compile("\\b" + word + "(?![A-Za-z])").matcher(code).find());
         }
-        Check.holds("no lambda", !code.contains("->"));
+        Check.holds("no lambda", !Pattern.compile("(?<!case [^:;{}]{1,200}|default )->").matcher(code).find());
         Check.holds("no method reference", !code.contains("::"));
         Check.holds("no text joined by +", !Pattern.compile("\"\\s*\\+|\\+\\s*\"").matcher(code).find());
         Check.holds("no loop without a bound",
             !Pattern.compile("while\\s*\\(true\\)|for\\s*\\([^;]*;\\s*;").matcher(code).find());
     }
 
-    private static void typesAndCalls(String code) {
-        Matcher type = Pattern.compile("\\b[A-Z][a-z][A-Za-z]*\\b").matcher(code);
+    private static void types(String code) {
+        TreeSet<String> own = new TreeSet<>();
+        Matcher declared = Pattern.compile("\\b(?:class|record|enum|interface) ([A-Z][A-Za-z]*)").matcher(code);
+        while (declared.find()) {
+            own.add(declared.group(1));
+        }
+        Check.holds("some twelve classes", own.size() <= 12);
         TreeSet<String> strange = new TreeSet<>();
+        Matcher type = Pattern.compile("\\b[A-Z][a-z][A-Za-z]*\\b").matcher(code);
         while (type.find()) {
-            if (!TYPES.contains(type.group())) {
+            if (!TYPES.contains(type.group()) && !own.contains(type.group())) {
                 strange.add(type.group());
             }
         }
         Check.due("classes that are not listed", strange.toString(), "[]");
-        Matcher call = Pattern.compile("\\b(?:Arrays|Math|Integer)\\.[A-Za-z]+").matcher(code);
+    }
+
+    private static void staticCalls(String code) {
+        Matcher call = Pattern.compile("\\b(?:Arrays|Math|Integer|Long|System|List)\\.([A-Za-z]+)").matcher(code);
         while (call.find()) {
-            boolean isLimit = call.group().equals("Integer.MAX_VALUE");
-            Check.holds(call.group() + " is not listed", isLimit || CALLS.contains(call.group()));
+            boolean isListed = switch (call.group().substring(0, call.group().indexOf('.'))) {
+                case "System" -> call.group(1).equals("arraycopy");
+                case "Arrays" -> List.of("copyOf", "copyOfRange", "fill").contains(call.group(1));
+                case "List" -> call.group(1).equals("of");
+                case "Math" -> List.of("abs", "max", "min", "floorDiv", "floorMod").contains(call.group(1));
+                default -> !call.group(1).endsWith("Exact");
+            };
+            Check.holds(call.group() + " is not listed", isListed);
         }
     }
 

@@ -21,7 +21,7 @@ final class MonthsTest {
     }
 
     private static void passToTheEnd() {
-        Voucherworks x = new Voucherworks();
+        Works x = new Works();
         for (int month = 1; month <= 240; month++) {
             Check.due("pass", x.pass(), month);
             Check.due("month", x.month(), month);
@@ -34,7 +34,7 @@ final class MonthsTest {
     }
 
     private static void lotsEnd() {
-        Voucherworks x = new Voucherworks();
+        Works x = new Works();
         x.law(2, 6, 0, 30);
         x.sell(1, 2, 99);
         Steps.pass(x, 5);
@@ -51,7 +51,7 @@ final class MonthsTest {
     }
 
     private static void lotsEndByOrigin() {
-        Voucherworks x = new Voucherworks();
+        Works x = new Works();
         x.law(0, 60, 0, 100);
         x.law(1, 6, 0, 100);
         x.sell(0, 0, 500);
@@ -79,7 +79,7 @@ final class MonthsTest {
     }
 
     private static void eachLotIsRoundedByItself() {
-        Voucherworks x = new Voucherworks();
+        Works x = new Works();
         x.law(0, 6, 0, 50);
         x.sell(0, 0, 1);
         x.load(0, 1, false);
@@ -90,7 +90,7 @@ final class MonthsTest {
     }
 
     private static void fees() {
-        Voucherworks x = new Voucherworks();
+        Works x = new Works();
         x.law(0, 0, 9, 0);
         x.sell(0, 0, 20);
         Steps.pass(x, 11);
@@ -110,7 +110,7 @@ final class MonthsTest {
     }
 
     private static void feeInOrder() {
-        Voucherworks x = new Voucherworks();
+        Works x = new Works();
         x.law(0, 0, 5, 0);
         x.law(1, 60, 9, 0);
         x.sell(0, 0, 10);
@@ -131,13 +131,13 @@ final class MonthsTest {
 
     /** What ends in the MONTH is gone ahead of the FEE. */
     private static void feeBehindEnds() {
-        Voucherworks x = new Voucherworks();
+        Works x = new Works();
         x.law(0, 12, 4, 50);
         x.sell(0, 0, 10);
         Steps.pass(x, 12);
         Check.due("OWED half of all 10", x.owed(0, 0), 5);
         Check.due("INCOME the other half", x.ofChain(0, 4), 5);
-        Voucherworks y = new Voucherworks();
+        Works y = new Works();
         y.law(0, 12, 4, 50);
         y.law(1, 0, 4, 50);
         y.sell(0, 0, 10);
@@ -150,7 +150,7 @@ final class MonthsTest {
     }
 
     private static void useTellsWhenFeesBegin() {
-        Voucherworks x = new Voucherworks();
+        Works x = new Works();
         x.law(0, 0, 1, 0);
         for (int card = 0; card < 6; card++) {
             x.sell(0, 0, 300);
@@ -175,8 +175,8 @@ final class MonthsTest {
     }
 
     /** A chain with a lot of each ORIGIN: 60 BOUGHT, 40 RETURNED, 5 CONVERTED, 30 GRANTED. */
-    private static Voucherworks allOrigins() {
-        Voucherworks x = new Voucherworks();
+    private static Works allOrigins() {
+        Works x = new Works();
         x.law(0, 6, 0, 0);
         x.law(1, 0, 0, 0);
         x.sell(0, 0, 400);
@@ -190,7 +190,7 @@ final class MonthsTest {
     }
 
     private static void dieRich() {
-        Voucherworks x = allOrigins();
+        Works x = allOrigins();
         Check.due("what is LEFT", x.ofChain(0, 2), 135);
         Check.due("die with 9999", x.die(0, 9999), 9999 - 135);
         Check.due("PAID OUT", x.ofChain(0, 6), 135);
@@ -199,21 +199,21 @@ final class MonthsTest {
         Check.due("DEAD", x.ofChain(0, 8), 1);
         Check.due("accounts", x.leftAnew(0), 0);
         Check.due("NET stays", x.ofChain(0, 3), 360);
-        Voucherworks y = allOrigins();
+        Works y = allOrigins();
         Check.due("die with just enough", y.die(0, 135), 0);
         Check.due("PAID OUT", y.ofChain(0, 6), 135);
     }
 
     private static void diePoor() {
-        Voucherworks x = allOrigins();
+        Works x = allOrigins();
         Check.due("BOUGHT, RETURNED, CONVERTED and 12 of GRANTED", x.die(0, 117), 0);
         Check.due("PAID OUT", x.ofChain(0, 6), 117);
         Check.due("LOST", x.ofChain(0, 7), 18);
-        Voucherworks y = allOrigins();
+        Works y = allOrigins();
         Check.due("half of BOUGHT alone", y.die(0, 30), 0);
         Check.due("PAID OUT", y.ofChain(0, 6), 30);
         Check.due("LOST", y.ofChain(0, 7), 105);
-        Voucherworks z = allOrigins();
+        Works z = allOrigins();
         Check.due("nothing", z.die(0, 0), 0);
         Check.due("PAID OUT", z.ofChain(0, 6), 0);
         Check.due("LOST", z.ofChain(0, 7), 135);
@@ -222,17 +222,17 @@ final class MonthsTest {
 
     /** Each lot is rounded down by the ESTATE ahead of its ORIGIN; what that leaves goes on. */
     private static void dieLeavesARest() {
-        Voucherworks x = new Voucherworks();
+        Works x = new Works();
         x.sell(0, 0, 1);
         x.sell(0, 1, 1);
         x.load(0, 1, false);
         Check.due("2 for 3 lots of 1: nothing for each", x.die(0, 2), 2);
         Check.due("LOST", x.ofChain(0, 7), 3);
-        Voucherworks w = new Voucherworks();
+        Works w = new Works();
         w.sell(0, 0, 1);
         w.die(0, 0);
         Check.due("a single coin, and no ESTATE", w.ofChain(0, 7), 1);
-        Voucherworks y = new Voucherworks();
+        Works y = new Works();
         y.sell(0, 0, 10);
         y.load(0, 11, false);
         y.load(0, 12, false);
@@ -242,7 +242,7 @@ final class MonthsTest {
         Check.due("what is left in the end", y.die(0, 20), 1);
         Check.due("PAID OUT", y.ofChain(0, 6), 19);
         Check.due("LOST", y.ofChain(0, 7), 21);
-        Voucherworks z = new Voucherworks();
+        Works z = new Works();
         z.sell(0, 0, 10);
         z.load(0, 11, false);
         z.load(0, 1, true);
@@ -253,7 +253,7 @@ final class MonthsTest {
     }
 
     private static void dieOfOneChain() {
-        Voucherworks x = new Voucherworks();
+        Works x = new Works();
         x.sell(0, 0, 10);
         x.sell(1, 0, 20);
         x.die(0, 5);
@@ -268,7 +268,7 @@ final class MonthsTest {
     }
 
     private static void dieRefuses() {
-        Voucherworks x = new Voucherworks();
+        Works x = new Works();
         x.sell(0, 0, 10);
         Check.noSuch("die(-1)", x, () -> x.die(-1, 0));
         Check.noSuch("die(4)", x, () -> x.die(4, -1));

@@ -26,7 +26,7 @@ final class PaymentsTest {
     }
 
     private static void payInOrder() {
-        Voucherworks x = new Voucherworks();
+        Works x = new Works();
         x.law(0, 6, 0, 0);
         x.law(1, 0, 0, 0);
         x.sell(0, 0, 10);
@@ -60,7 +60,7 @@ final class PaymentsTest {
     }
 
     private static void payTheBestPrice() {
-        Voucherworks x = new Voucherworks();
+        Works x = new Works();
         x.sell(0, 0, 50);
         x.campaign(true, 50, 100);
         Check.notNow("99 is more than there is", x, () -> x.pay(0, 99));
@@ -72,7 +72,7 @@ final class PaymentsTest {
     }
 
     private static void payNothing() {
-        Voucherworks x = new Voucherworks();
+        Works x = new Works();
         x.sell(0, 0, 1);
         x.pay(0, 1);
         x.campaign(false, 200, 0);
@@ -86,7 +86,7 @@ final class PaymentsTest {
     }
 
     private static void payRefuses() {
-        Voucherworks x = new Voucherworks();
+        Works x = new Works();
         Check.noSuch("pay without cards", x, () -> x.pay(0, 1));
         x.sell(0, 0, 499);
         x.sell(0, 0, 500);
@@ -106,7 +106,7 @@ final class PaymentsTest {
     }
 
     private static void whyNot() {
-        Voucherworks x = new Voucherworks();
+        Works x = new Works();
         x.sell(0, 0, 100);
         x.sell(0, 0, 100);
         x.sell(0, 0, 100);
@@ -133,7 +133,7 @@ final class PaymentsTest {
     }
 
     private static void whyNotRefuses() {
-        Voucherworks x = new Voucherworks();
+        Works x = new Works();
         x.sell(0, 0, 100);
         Check.noSuch("whyNot(-1)", x, () -> x.whyNot(-1, 0));
         Check.noSuch("whyNot(1)", x, () -> x.whyNot(1, 1));
@@ -145,7 +145,7 @@ final class PaymentsTest {
     }
 
     private static void giveBackFromTheLast() {
-        Voucherworks x = new Voucherworks();
+        Works x = new Works();
         x.sell(0, 0, 10);
         x.load(0, 10, true);
         x.load(0, 10, false);
@@ -175,7 +175,7 @@ final class PaymentsTest {
 
     /** The last lot of the ORDER is here the one with the lowest number. */
     private static void giveBackByOrderNotByNumber() {
-        Voucherworks x = new Voucherworks();
+        Works x = new Works();
         x.law(0, 0, 0, 0);
         x.sell(0, 0, 10);
         x.load(0, 10, true);
@@ -189,7 +189,7 @@ final class PaymentsTest {
     }
 
     private static void giveBackToExpired() {
-        Voucherworks x = new Voucherworks();
+        Works x = new Works();
         x.law(0, 8, 0, 0);
         x.sell(0, 0, 10);
         x.load(0, 10, true);
@@ -227,7 +227,7 @@ final class PaymentsTest {
     }
 
     private static void giveBackToALotThatAFeeEmptied() {
-        Voucherworks x = new Voucherworks();
+        Works x = new Works();
         x.law(0, 24, 9, 0);
         x.sell(0, 0, 10);
         x.pay(0, 5);
@@ -241,7 +241,7 @@ final class PaymentsTest {
     }
 
     private static void giveBackSingleCoins() {
-        Voucherworks x = new Voucherworks();
+        Works x = new Works();
         x.law(0, 6, 0, 0);
         x.sell(0, 0, 10);
         x.pay(0, 3);
@@ -257,7 +257,7 @@ final class PaymentsTest {
     }
 
     private static void giveBackOfFrozen() {
-        Voucherworks x = new Voucherworks();
+        Works x = new Works();
         x.sell(0, 0, 10);
         x.pay(0, 5);
         Steps.freeze(x, 0);
@@ -266,7 +266,7 @@ final class PaymentsTest {
     }
 
     private static void giveBackAfterJoin() {
-        Voucherworks x = new Voucherworks();
+        Works x = new Works();
         x.law(0, 6, 0, 0);
         x.sell(0, 0, 10);
         x.sell(0, 0, 20);
@@ -282,7 +282,7 @@ final class PaymentsTest {
     }
 
     private static void giveBackRefuses() {
-        Voucherworks x = new Voucherworks();
+        Works x = new Works();
         x.sell(0, 0, 100);
         Check.noSuch("giveBack without payments", x, () -> x.giveBack(0, 0));
         x.pay(0, 20);
@@ -299,7 +299,7 @@ final class PaymentsTest {
     }
 
     private static void giveBackWithSixtyLots() {
-        Voucherworks x = new Voucherworks();
+        Works x = new Works();
         x.law(0, 6, 0, 0);
         x.sell(0, 0, 10);
         Steps.pass(x, 5);
@@ -314,7 +314,7 @@ final class PaymentsTest {
     }
 
     private static void convert() {
-        Voucherworks x = new Voucherworks();
+        Works x = new Works();
         x.sell(2, 0, 500);
         x.pay(0, 59);
         x.pay(0, 101);
@@ -338,7 +338,7 @@ final class PaymentsTest {
     }
 
     private static void convertBelowZero() {
-        Voucherworks x = new Voucherworks();
+        Works x = new Works();
         x.sell(0, 0, 500);
         x.pay(0, 100);
         Steps.pass(x, 2);
@@ -352,7 +352,7 @@ final class PaymentsTest {
     }
 
     private static void convertRefuses() {
-        Voucherworks x = new Voucherworks();
+        Works x = new Works();
         Check.noSuch("convert without cards", x, () -> x.convert(0, 5));
         for (int i = 0; i < 4; i++) {
             x.sell(i == 3 ? 1 : 0, 0, 500);

@@ -37,7 +37,7 @@ final class QuestionsTest {
     }
 
     private static void marksByMonth() {
-        Voucherworks x = new Voucherworks();
+        Works x = new Works();
         x.sell(0, 0, 500);
         x.pay(0, 70);
         for (int month = 0; month < 2; month++) {
@@ -55,7 +55,7 @@ final class QuestionsTest {
     }
 
     private static void marksAreRoundedByPayment() {
-        Voucherworks x = new Voucherworks();
+        Works x = new Works();
         x.sell(0, 0, 500);
         x.pay(0, 19);
         x.pay(0, 19);
@@ -69,7 +69,7 @@ final class QuestionsTest {
     }
 
     private static void ofCardRefuses() {
-        Voucherworks x = new Voucherworks();
+        Works x = new Works();
         x.sell(0, 0, 5);
         Check.noSuch("ofCard(-1, 0)", x, () -> x.ofCard(-1, 0));
         Check.noSuch("ofCard(1, 8)", x, () -> x.ofCard(1, 8));
@@ -80,7 +80,7 @@ final class QuestionsTest {
     }
 
     private static void ofLotRefuses() {
-        Voucherworks x = new Voucherworks();
+        Works x = new Works();
         x.sell(0, 0, 5);
         Check.noSuch("ofLot(-1, 0)", x, () -> x.ofLot(-1, 0));
         Check.noSuch("ofLot(1, 5)", x, () -> x.ofLot(1, 5));
@@ -89,7 +89,7 @@ final class QuestionsTest {
         Check.outOfRange("ofLot(0, 5)", x, () -> x.ofLot(0, 5));
     }
 
-    private static void orderIs(Voucherworks x, int card, int... lots) {
+    private static void orderIs(Works x, int card, int... lots) {
         for (int place = 0; place < lots.length; place++) {
             Check.due("orderAt(" + card + ", " + place + ")", x.orderAt(card, place), lots[place]);
         }
@@ -98,7 +98,7 @@ final class QuestionsTest {
     }
 
     private static void orderByEnd() {
-        Voucherworks x = new Voucherworks();
+        Works x = new Works();
         x.law(0, 8, 0, 0);
         x.law(1, 0, 0, 0);
         x.sell(0, 0, 5);
@@ -124,7 +124,7 @@ final class QuestionsTest {
 
     /** With the same END: GRANTED, CONVERTED, RETURNED, BOUGHT. */
     private static void orderByOrigin() {
-        Voucherworks x = new Voucherworks();
+        Works x = new Works();
         x.law(0, 12, 0, 0);
         x.law(1, 6, 0, 0);
         x.sell(0, 0, 100);
@@ -138,7 +138,7 @@ final class QuestionsTest {
         x.load(0, 1, true);
         // END: lot 0 12, lot 2 CONVERTED 15, lot 3 RETURNED 12, lot 4 GRANTED 15.
         orderIs(x, 0, 3, 0, 4, 2);
-        Voucherworks y = new Voucherworks();
+        Works y = new Works();
         y.law(0, 6, 0, 0);
         y.sell(0, 0, 5);
         y.load(0, 5, true);
@@ -148,7 +148,7 @@ final class QuestionsTest {
     }
 
     private static void orderAtRefuses() {
-        Voucherworks x = new Voucherworks();
+        Works x = new Works();
         Check.noSuch("orderAt without cards", x, () -> x.orderAt(0, 0));
         x.sell(0, 0, 5);
         Check.noSuch("orderAt(-1, 0)", x, () -> x.orderAt(-1, 0));
@@ -158,7 +158,7 @@ final class QuestionsTest {
     }
 
     private static void ofPayment() {
-        Voucherworks x = new Voucherworks();
+        Works x = new Works();
         x.sell(0, 0, 5);
         x.sell(0, 0, 200);
         Steps.pass(x, 9);
@@ -177,7 +177,7 @@ final class QuestionsTest {
     }
 
     private static void ofPaymentRefuses() {
-        Voucherworks x = new Voucherworks();
+        Works x = new Works();
         x.sell(0, 0, 5);
         x.pay(0, 1);
         Check.noSuch("ofPayment(-1, 0)", x, () -> x.ofPayment(-1, 0));
@@ -187,7 +187,7 @@ final class QuestionsTest {
     }
 
     private static void takenRefuses() {
-        Voucherworks x = new Voucherworks();
+        Works x = new Works();
         x.sell(0, 0, 5);
         Check.noSuch("taken without payments", x, () -> x.taken(0, 0));
         x.pay(0, 1);
@@ -201,7 +201,7 @@ final class QuestionsTest {
     }
 
     private static void ofChain() {
-        Voucherworks x = new Voucherworks();
+        Works x = new Works();
         x.sell(0, 0, 100);
         x.sell(3, 1, 200);
         x.sell(3, 2, 50);
@@ -227,7 +227,7 @@ final class QuestionsTest {
     }
 
     private static void ofChainRefuses() {
-        Voucherworks x = new Voucherworks();
+        Works x = new Works();
         Check.noSuch("ofChain(-1, 0)", x, () -> x.ofChain(-1, 0));
         Check.noSuch("ofChain(4, 9)", x, () -> x.ofChain(4, 9));
         Check.outOfRange("ofChain(0, -1)", x, () -> x.ofChain(0, -1));
@@ -235,7 +235,7 @@ final class QuestionsTest {
     }
 
     private static void owedRefuses() {
-        Voucherworks x = new Voucherworks();
+        Works x = new Works();
         Check.noSuch("owed(-1, 0)", x, () -> x.owed(-1, 0));
         Check.noSuch("owed(3, 0)", x, () -> x.owed(3, 0));
         Check.noSuch("owed(0, -1)", x, () -> x.owed(0, -1));
@@ -247,7 +247,7 @@ final class QuestionsTest {
     }
 
     private static void leftAnew() {
-        Voucherworks x = new Voucherworks();
+        Works x = new Works();
         x.law(0, 6, 3, 33);
         x.law(1, 0, 3, 33);
         x.sell(2, 0, 100);
@@ -273,7 +273,7 @@ final class QuestionsTest {
     }
 
     private static void booked() {
-        Voucherworks x = new Voucherworks();
+        Works x = new Works();
         x.law(0, 6, 0, 0);
         x.sell(0, 0, 100);
         x.rate(0, 100);
@@ -287,7 +287,7 @@ final class QuestionsTest {
     }
 
     private static void bookedLots() {
-        Voucherworks x = new Voucherworks();
+        Works x = new Works();
         x.law(0, 10, 0, 0);
         x.law(1, 0, 0, 0);
         x.sell(0, 0, 19);
@@ -313,7 +313,7 @@ final class QuestionsTest {
     }
 
     private static void questionsChangeNothing() {
-        Voucherworks x = new Voucherworks();
+        Works x = new Works();
         x.campaign(true, 30, 20);
         x.campaign(false, 7, 0);
         x.sell(0, 0, 300);
@@ -321,8 +321,7 @@ final class QuestionsTest {
         x.pay(0, 150);
         Steps.pass(x, 3);
         x.convert(0, 5);
-        Face face = new Real(x);
-        String once = Snapshot.of(face);
-        Check.due("all asked twice", Snapshot.of(face), once);
+        String once = Snapshot.of(x.asked());
+        Check.alike("all asked twice", Snapshot.of(x.asked()), once);
     }
 }
