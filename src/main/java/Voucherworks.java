@@ -804,7 +804,9 @@ public final class Voucherworks {
                 if ((set >> campaign & 1) == 1) {
                     int others = set & ~(1 << campaign);
                     for (int word = 0; word < WORDS; word++) {
-                        applyToWord(set, campaign, word, got[others][word]);
+                        if (got[others][word] != 0) {
+                            applyToWord(set, campaign, word, got[others][word]);
+                        }
                     }
                 }
             }

@@ -19,6 +19,8 @@ final class EdgesOfCampaignsTest {
         noTwoThatBar();
         leastByThePriceThen();
         notByTheBiggestStep();
+        theHigherOfTwoPricesCanGoOn();
+        hundredthsOfThePriceThen();
         campaignIsAdded();
         inHundredthsOrNot();
         value();
@@ -270,6 +272,34 @@ final class EdgesOfCampaignsTest {
         prices(x, 198, 69, 2);
         // Half of 199, less 99, is 100: that goes on by 60.
         prices(x, 199, 40, 2);
+    }
+
+    /** By the first two 101 gets 91 and 86, or 96 and 87; 86 is below the LEAST of the third one, 87 is not. */
+    private static void theHigherOfTwoPricesCanGoOn() {
+        Check.sentence(0, BEST);
+        Works x = new Works();
+        x.campaign(true, 10, 95);
+        x.campaign(false, 5, 90);
+        prices(x, 101, 86, 2);
+        x.campaign(false, 50, 87);
+        prices(x, 101, 37, 3);
+    }
+
+    private static void hundredthsOfThePriceThen() {
+        Check.sentence(0, BEST);
+        Works x = new Works();
+        x.campaign(true, 50, 0);
+        x.campaign(true, 40, 0);
+        // 100, 50, 30; 99: 50, 30, or 60, 30; 3: 2, 2, or 2, 1.
+        prices(x, 100, 30, 2);
+        prices(x, 99, 30, 2);
+        prices(x, 3, 1, 2);
+        x.campaign(false, 10, 0);
+        prices(x, 100, 20, 3);
+        prices(x, 33, 0, 3);
+        prices(x, 21, 0, 3);
+        prices(x, 20, 0, 2);
+        prices(x, 10, 0, 1);
     }
 
     // ---- promise 6: campaign

@@ -111,6 +111,15 @@ final class EdgesOfCodesTest {
         y.join(0, 1);
         Check.due("below 0 of the one", y.ofCard(0, 5), -1);
         Check.due("0 of the other", y.ofCard(1, 5), 0);
+        Works both = cards(100, 200);
+        both.pay(0, 70);
+        both.pay(1, 150);
+        Steps.pass(both, 2);
+        both.convert(0, 5);
+        both.convert(1, 10);
+        both.join(0, 1);
+        Check.due("7 and 15, less 5 and 10", both.ofCard(0, 5), 7);
+        Check.notNow("10 of 7", both, () -> both.convert(0, 10));
     }
 
     /** What comes of the moved LOTS and PAYMENTS comes to the one. */

@@ -200,6 +200,8 @@ final class EdgesOfExceptionsTest {
             Check.outOfRange("pay 0", x, () -> x.pay(of, 0));
             Check.outOfRange("pay 1001", x, () -> x.pay(of, 1001));
             Check.outOfRange("convert 4", x, () -> x.convert(of, 4));
+            Check.outOfRange("convert 6", x, () -> x.convert(of, 6));
+            Check.outOfRange("convert 499", x, () -> x.convert(of, 499));
             Check.outOfRange("convert 505", x, () -> x.convert(of, 505));
             Check.outOfRange("load 0", x, () -> x.load(of, 0, false));
             Check.outOfRange("load 501", x, () -> x.load(of, 501, true));
@@ -213,6 +215,7 @@ final class EdgesOfExceptionsTest {
         Check.outOfRange("giveBack 0 of the DEAD", x, () -> x.giveBack(3, 0));
         Check.outOfRange("giveBack more than the NET of the DEAD", x, () -> x.giveBack(3, 55));
         Check.outOfRange("convert 4 where there are none", x, () -> x.convert(4, 4));
+        Check.outOfRange("convert 6 where there are none", x, () -> x.convert(4, 6));
         Check.outOfRange("convert 505 where there are none", x, () -> x.convert(4, 505));
     }
 
@@ -228,6 +231,7 @@ final class EdgesOfExceptionsTest {
         Check.outOfRange("pay 0, with 40 PAYMENTS", full, () -> full.pay(0, 0));
         Check.outOfRange("pay 1001, with 40 PAYMENTS", full, () -> full.pay(0, 1001));
         Check.outOfRange("convert 4, with 60 LOTS", full, () -> full.convert(0, 4));
+        Check.outOfRange("convert 6, with 60 LOTS", full, () -> full.convert(0, 6));
         int net = full.ofPayment(0, 2);
         Check.outOfRange("giveBack 0, with 60 LOTS", full, () -> full.giveBack(0, 0));
         Check.outOfRange("giveBack more than the NET, with 60 LOTS", full, () -> full.giveBack(0, net + 1));

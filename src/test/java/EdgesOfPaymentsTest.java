@@ -99,6 +99,11 @@ final class EdgesOfPaymentsTest {
         x.pay(0, 100);
         Check.due("all, took", x.ofPayment(2, 1), 50);
         Check.due("BALANCE", x.ofCard(0, 1), 0);
+        x.load(0, 499, false);
+        Check.notNow("half of 1000 is one more than the BALANCE", x, () -> x.pay(0, 1000));
+        x.load(0, 1, false);
+        x.pay(0, 1000);
+        Check.due("of 1000, took", x.ofPayment(3, 1), 500);
     }
 
     private static void takesAllOfOneAheadOfTheNext() {

@@ -34,6 +34,7 @@ final class EdgesOfQuestionsTest {
         leftAnewWithoutChain();
         bookedByAge();
         bookedByRate();
+        bookedIsRoundedOnce();
         bookedByWhatIsLeft();
         bookedOfBoughtOnly();
         bookedOfTheLongestLife();
@@ -590,6 +591,21 @@ final class EdgesOfQuestionsTest {
             x.rate(0, 100);
             Check.due("booked by a RATE that is set later", x.booked(0), 50);
         }
+    }
+
+    /** Rounded once, in the end: 10 times 1 times 60 by 600 is 1, and 10 by 6 would be 1, and 60 hundredths of that 0. */
+    private static void bookedIsRoundedOnce() {
+        Check.sentence(29, BOOKED);
+        Works x = oneLot(6, 60, 10);
+        x.pass();
+        Check.due("1 MONTH of 6", x.booked(0), 1);
+        x.rate(0, 59);
+        Check.due("just less than 1", x.booked(0), 0);
+        Works y = oneLot(60, 1, 300);
+        Steps.pass(y, 19);
+        Check.due("300 times 19 by 6000", y.booked(0), 0);
+        y.pass();
+        Check.due("300 times 20 by 6000", y.booked(0), 1);
     }
 
     private static void bookedByWhatIsLeft() {
