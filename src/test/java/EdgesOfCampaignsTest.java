@@ -20,6 +20,7 @@ final class EdgesOfCampaignsTest {
         leastByThePriceThen();
         notByTheBiggestStep();
         theHigherOfTwoPricesCanGoOn();
+        theHigherOfTwoPricesCanGoOnAnywhere();
         hundredthsOfThePriceThen();
         campaignIsAdded();
         inHundredthsOrNot();
@@ -283,6 +284,21 @@ final class EdgesOfCampaignsTest {
         prices(x, 101, 86, 2);
         x.campaign(false, 50, 87);
         prices(x, 101, 37, 3);
+    }
+
+    /**
+     * By the first two, half and -10, twice h gets h - 10, or h - 5: only from the higher one the third goes on, to
+     * h - 65; by the third behind the first alone it is h - 60, then below the LEAST of the second.
+     */
+    private static void theHigherOfTwoPricesCanGoOnAnywhere() {
+        Check.sentence(0, BEST);
+        for (int h = 65; h <= 500; h++) {
+            Works x = new Works();
+            x.campaign(true, 50, 0);
+            x.campaign(false, 10, h);
+            x.campaign(false, 60, h - 8);
+            prices(x, 2 * h, h - 65, 3);
+        }
     }
 
     private static void hundredthsOfThePriceThen() {
